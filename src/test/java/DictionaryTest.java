@@ -92,6 +92,8 @@ public final class DictionaryTest {
         Due.is("in another layer", x.entry(1), false);
         Due.type(x, "b", 40);
         Due.is("in place of one", x.entry(2), true);
+        Due.type(x, "c", 1);
+        Due.is("in place of the first", x.entry(2), true);
         Due.type(x, "b");
         Due.fails("too little typed comes first", UnsupportedOperationException.class, () -> x.entry(2));
         x.wipe();

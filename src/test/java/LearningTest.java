@@ -66,6 +66,8 @@ public final class LearningTest {
         Due.fails("cellAt(-1)", IndexOutOfBoundsException.class, () -> x.cellAt(-1));
         x.undo();
         Due.is("one less", x.brailleLength(), 9);
+        x.undo();
+        Due.fails("cellAt after an undo", IndexOutOfBoundsException.class, () -> x.cellAt(8));
     }
 
     private static void contracted() {
@@ -81,6 +83,15 @@ public final class LearningTest {
         contract(x, "at", 33);
         Due.is("from the left", Due.cells(x), "32 0 64 31 0 30 64 5 0 20 64 8 5 0 33 8 5");
         Due.is("sound", x.isSound(), true);
+        Stenohall z = new Stenohall();
+        Due.write(z, "zthe", "ghen", "shed", "-aza-z");
+        contract(z, "then", 29);
+        contract(z, "the", 28);
+        contract(z, "th", 27);
+        contract(z, "hed", 63);
+        contract(z, "aza", 40);
+        Due.is("the longest was told first", Due.cells(z), "26 28 0 7 8 5 14 0 19 63 0 64 40 64 26");
+        Due.is("reads back", z.isSound(), true);
         Stenohall y = new Stenohall();
         contract(y, "ab", 40);
         Due.write(y, "a", "b", "^a|b");
@@ -99,6 +110,9 @@ public final class LearningTest {
     }
 
     private static void nearest() {
+        Stenohall first = new Stenohall();
+        Due.entry(first, 0, "a", 3);
+        Due.is("the only one", first.nearest(65532), 3);
         Stenohall x = new Stenohall();
         Due.fails("nearest(0)", IllegalArgumentException.class, () -> x.nearest(0));
         Due.fails("nearest(65536)", IllegalArgumentException.class, () -> x.nearest(65536));
@@ -106,6 +120,7 @@ public final class LearningTest {
         Due.entry(x, 0, "a", 1, 2);
         Due.fails("two strokes", NoSuchElementException.class, () -> x.nearest(1));
         Due.entry(x, 0, "a", 12);
+        Due.is("all keys unlike", x.nearest(65535 - 12), 12);
         Due.entry(x, 1, "a", 7);
         Due.entry(x, 2, "=", 65535);
         Due.is("the same", x.nearest(7), 7);
@@ -152,6 +167,10 @@ public final class LearningTest {
         Due.entry(y, 0, "a", 4);
         Due.strokes(y, 3, 3, 3);
         Due.is("misses don't count", y.saving(), 2);
+        Stenohall z = new Stenohall();
+        Due.entry(z, 0, "he", 1, 1, 1, 1);
+        Due.strokes(z, 1, 1, 1, 1);
+        Due.is("of the first translation", z.saving(), 3);
     }
 
     private static void brief() {
@@ -161,6 +180,7 @@ public final class LearningTest {
         Due.is("8 signs for 3 strokes", x.brief(), 8f / 3f);
         Due.entry(x, 0, "#", 1, 2, 3);
         Due.is("no signs", x.brief(), 0f);
+        Due.is("one stroke", Due.written("abc").brief(), 3f);
     }
 
     private static void delay() {
@@ -180,6 +200,13 @@ public final class LearningTest {
         Due.is("4 by 2", x.delay(), 2.0);
         x.stroke(1);
         Due.is("4 by 3", x.delay(), 4.0 / 3.0);
+        Stenohall y = new Stenohall();
+        y.stroke(1);
+        y.tick();
+        y.stroke(1);
+        y.tick();
+        y.stroke(1);
+        Due.is("from the first one on", y.delay(), 1.0);
         Due.entry(x, 0, "=", 9);
         x.tick();
         x.stroke(9);
@@ -213,5 +240,10 @@ public final class LearningTest {
         Due.is("strokes gone", x.isSound(), true);
         x.tick();
         Due.is("after a tick", x.isSound(), true);
+        Due.type(x, "-pie", 1);
+        x.alternative(0, 'c');
+        Due.entry(x, 0, "cow", 2);
+        Due.is("an alternative", Due.text(x).startsWith("Pie"), true);
+        Due.is("with an alternative", x.isSound(), true);
     }
 }

@@ -170,6 +170,10 @@ public final class SinksTest {
         Due.is("one blank between", Due.lines(x), "000000000000" + "0" + "111111111111");
         x.undo();
         Due.is("after an undo", x.lines(), 2);
+        x.undo();
+        Due.is("after another one", x.lines(), 1);
+        x.stroke(4);
+        Due.is("after a stroke", x.lineOf(13), 1);
     }
 
     private static void longPieces() {

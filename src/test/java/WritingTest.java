@@ -112,6 +112,10 @@ public final class WritingTest {
         writes("a The??.", "a", "the^", "??", ".", "<");
         writes("The", "-the", "<");
         writes("", "<");
+        writes("A Z Mz a z", "-a", "-z", "-mz", "a", "z");
+        writes("Za Az.", "za", "<", "az", "<", ".");
+        writes("Z", "z", "<");
+        writes("A", "a", "-", "#", "a");
     }
 
     private static void takenWords() {
@@ -204,6 +208,11 @@ public final class WritingTest {
     private static void listOfWords() {
         Due.is("the plain one is listed", Due.joined("e", "bake", "ing", "bakeing"), "bakeing");
         Due.is("the rule's one too", Due.joined("e", "bake", "ing", "bakeing", "baking"), "baking");
+        Due.is("d and the plain one", Due.joined("d", "run", "ing", "running", "runing"), "running");
+        Due.is("y and the plain one", Due.joined("y", "cry", "ed", "cryed", "cried"), "cried");
+        Due.is("s and the plain one", Due.joined("s", "fox", "s", "foxs", "foxes"), "foxes");
+        Due.is("only the plain one is listed", Due.joined("ys", "zy", "s", "zys"), "zys");
+        Due.is("capital Z and A", Due.joined("e", "-z-ae", "e", "zae", "zaee"), "ZAe");
         Due.is("the first rule that holds", Due.joined("ys", "cry", "s"), "cris");
         Due.is("none", Due.joined("yd", "yes", "ed"), "yessed");
         Due.is("capitals count as their letters", Due.joined("e", "-bake", "ing", "bakeing"), "Bakeing");
