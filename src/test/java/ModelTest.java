@@ -1,4 +1,7 @@
+import java.lang.reflect.InvocationTargetException;
+import java.lang.reflect.Method;
 import java.util.ArrayList;
+import java.util.Arrays;
 import java.util.List;
 import java.util.concurrent.Callable;
 
@@ -8,7 +11,7 @@ public final class ModelTest {
     private static final int CALLS = 512;
     private static final String SIGNS = "aeiouybtchsxrwz^-<.,#|=";
     private static final String[] CONTENTS = {"cat", "bake", "cry", "run", "fox", "^ing", "^s", "^ed", "^", ".", ",", "|", "#", "<",
-        "-", "=", "a^", "^er.", "-b", "yes", "box", "wish", "ab<c", "x#y", "^ly-s", "the.", ",|", "|a", "-.", "pay", "ee"};
+        "-", "=", "a^", "^er.", "-b", "yes", "box", "wish", "ab<c", "x#y", "^ly-s", "the.", ",|", "|a", "-.", "pay", "ee", "row", "rich", "quiz", "^er", "^s^"};
 
     private long seed;
 
@@ -47,7 +50,7 @@ public final class ModelTest {
                 calls++;
                 String got = answer(() -> ask(hall, call));
                 String due = answer(() -> ask(model, call));
-                told.add(java.util.Arrays.toString(call) + " = " + got);
+                told.add(Arrays.toString(call) + " = " + got);
                 if (!got.equals(due)) {
                     return tail(told) + ", due is " + due;
                 }
@@ -163,58 +166,18 @@ public final class ModelTest {
         }
     }
 
-    private static Object ask(Stenohall x, Object[] c) {
-        switch ((String) c[0]) {
-            case "mode": return x.mode((char) c[1]);
-            case "down": return x.down((int) c[1]);
-            case "up": return x.up((int) c[1]);
-            case "stroke": return x.stroke((int) c[1]);
-            case "undo": return x.undo();
-            case "chord": return x.chord((int) c[1]);
-            case "sign": return x.sign((char) c[1]);
-            case "wipe": return x.wipe();
-            case "entry": return x.entry((int) c[1]);
-            case "alternative": return x.alternative((int) c[1], (char) c[2]);
-            case "remove": return x.remove((int) c[1]);
-            case "turn": return x.turn((int) c[1], (boolean) c[2]);
-            case "entries": return x.entries((int) c[1]);
-            case "word": return x.word();
-            case "rule": return x.rule((char) c[1]);
-            case "forget": return x.forget();
-            case "tick": return x.tick();
-            case "sink": return x.sink((int) c[1]);
-            case "paper": return x.paper((int) c[1], (int) c[2]);
-            case "contract": return x.contract((int) c[1]);
-            case "nearest": return x.nearest((int) c[1]);
-            default: throw new IllegalArgumentException((String) c[0]);
+    /** Calls the method of that name, on the hall or on the model alike. */
+    private static Object ask(Object on, Object[] call) throws Exception {
+        for (Method m : on.getClass().getDeclaredMethods()) {
+            if (m.getName().equals(call[0]) && m.getParameterCount() == call.length - 1) {
+                try {
+                    return m.invoke(on, Arrays.copyOfRange(call, 1, call.length));
+                } catch (InvocationTargetException e) {
+                    throw (Exception) e.getCause();
+                }
+            }
         }
-    }
-
-    private static Object ask(Model x, Object[] c) {
-        switch ((String) c[0]) {
-            case "mode": return x.mode((char) c[1]);
-            case "down": return x.down((int) c[1]);
-            case "up": return x.up((int) c[1]);
-            case "stroke": return x.stroke((int) c[1]);
-            case "undo": return x.undo();
-            case "chord": return x.chord((int) c[1]);
-            case "sign": return x.sign((char) c[1]);
-            case "wipe": return x.wipe();
-            case "entry": return x.entry((int) c[1]);
-            case "alternative": return x.alternative((int) c[1], (char) c[2]);
-            case "remove": return x.remove((int) c[1]);
-            case "turn": return x.turn((int) c[1], (boolean) c[2]);
-            case "entries": return x.entries((int) c[1]);
-            case "word": return x.word();
-            case "rule": return x.rule((char) c[1]);
-            case "forget": return x.forget();
-            case "tick": return x.tick();
-            case "sink": return x.sink((int) c[1]);
-            case "paper": return x.paper((int) c[1], (int) c[2]);
-            case "contract": return x.contract((int) c[1]);
-            case "nearest": return x.nearest((int) c[1]);
-            default: throw new IllegalArgumentException((String) c[0]);
-        }
+        throw new AssertionError(call[0]);
     }
 
     private static String dump(Stenohall x) {
