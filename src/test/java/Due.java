@@ -1,9 +1,17 @@
+import java.util.function.Consumer;
+
 /** Counts answers that are as due and prints those that are not. */
 final class Due {
     private static int passed = 0;
     private static int failed = 0;
+    private static String words = "";
 
     private Due() {
+    }
+
+    /** The words of the document that what follows is due by. */
+    static void by(String told) {
+        words = told;
     }
 
     static void is(String what, Object got, Object want) {
@@ -11,7 +19,7 @@ final class Due {
             passed++;
         } else {
             failed++;
-            System.out.println(what + " answered " + got + ", due is " + want);
+            System.out.println((words.isEmpty() ? "" : words + " -- ") + what + " answered " + got + ", due is " + want);
         }
     }
 
@@ -24,6 +32,16 @@ final class Due {
             got = e.getClass();
         }
         is(what, got, want);
+    }
+
+    /** The call throws, and two halls alike answer alike in all, though only one of them refused it. */
+    static void refuses(String what, Class<? extends RuntimeException> want, Consumer<Stenohall> recipe, Consumer<Stenohall> call) {
+        Stenohall x = new Stenohall();
+        Stenohall y = new Stenohall();
+        recipe.accept(x);
+        recipe.accept(y);
+        fails(what, want, () -> call.accept(x));
+        is(what + " changes nothing: the hall", Portrait.of(x), Portrait.of(y));
     }
 
     static void end() {
