@@ -126,8 +126,10 @@ final class DictionarySentences {
         Due.is("another layer has room", x.entry(1), false);
         Due.type(x, "b", 40);
         Due.is("in place of the 40th", x.entry(0), true);
-        Due.strokes(x, 1, 40, 41);
-        Due.is("the first, the last, and that of another layer", Due.text(x), "a b b");
+        Due.type(x, "c", 1);
+        Due.is("in place of the first", x.entry(0), true);
+        Due.strokes(x, 1, 2, 40, 41);
+        Due.is("the first, the second, the last, and that of another layer", Due.text(x), "c a b b");
     }
 
     private static void threeAlternatives() {
@@ -253,6 +255,17 @@ final class DictionarySentences {
         Due.is("not alone", z.stroke(9), 1);
         Due.is("not alone", z.stroke(8), 2);
         Due.is("text", Due.text(z), "a");
+        Stenohall w = new Stenohall();
+        Due.entry(w, 0, "=", 9);
+        Due.type(w, "b", 9);
+        w.alternative(0, 'a');
+        Due.entry(w, 0, "a", 1);
+        w.stroke(1);
+        Due.is("though it has an alternative", w.stroke(9), 0);
+        Due.entry(w, 1, "c", 9);
+        Due.strokes(w, 1, 9, 1);
+        w.turn(1, false);
+        Due.is("though the next one's letter is the alternative's", Due.kept(w), "1");
     }
 
     private static void behindUndone() {
@@ -458,8 +471,10 @@ final class DictionarySentences {
         }, y -> y.entry(2));
         Stenohall z = new Stenohall();
         Halls.fortyEntries(z, 2);
-        Due.type(z, "b", 20);
-        Due.is("one with this outline", z.entry(2), true);
+        for (int outline : new int[] {1, 20, 40}) {
+            Due.type(z, "b", outline);
+            Due.is("one with this outline", z.entry(2), true);
+        }
         z.chord(20);
         z.remove(2);
         Due.type(z, "b", 41);

@@ -42,6 +42,15 @@ final class Halls {
         Due.strokes(x, 5, 6);
     }
 
+    /** The mode 'f', the key 1 down since the last stroke, which was made of it and 0, and the key 2 since then. */
+    static void newlyDown(Stenohall x) {
+        x.mode('f');
+        x.down(0);
+        x.down(1);
+        x.up(0);
+        x.down(2);
+    }
+
     static void strokes(Stenohall x, int count) {
         for (int i = 1; i <= count; i++) {
             x.stroke(i);

@@ -90,6 +90,11 @@ final class KeySentences {
         x.stroke(9);
         x.down(3);
         Due.is("a stroke that was told does not matter", x.up(2) + x.up(3), 12);
+        x.down(2);
+        x.down(4);
+        x.up(4);
+        x.stroke(9);
+        Due.is("nor to a key that came up ahead of it", x.up(2), 20);
     }
 
     private static void byFirst() {
@@ -207,6 +212,7 @@ final class KeySentences {
         for (char mode : new char[] {'k', 'm', 'e', 'g', 'L', 'F', ' ', 0, 'l' + 256, 'f' + 256, 65535}) {
             Due.refuses("mode " + (int) mode, IllegalArgumentException.class, Halls::rich, y -> y.mode(mode));
             Due.refuses("mode " + (int) mode, IllegalArgumentException.class, y -> y.mode('f'), y -> y.mode(mode));
+            Due.refuses("mode " + (int) mode, IllegalArgumentException.class, Halls::newlyDown, y -> y.mode(mode));
         }
         Sentences.of(2, "Throws IllegalStateException if a key is down");
         for (int key : new int[] {0, 7, 15}) {
@@ -214,6 +220,9 @@ final class KeySentences {
             Due.refuses("mode f", IllegalStateException.class, y -> y.down(key), y -> y.mode('f'));
         }
         Due.refuses("in mode f", IllegalStateException.class, Halls::byFirst, y -> y.mode('l'));
+        for (char mode : new char[] {'l', 'f'}) {
+            Due.refuses("a key went down since the last stroke", IllegalStateException.class, Halls::newlyDown, y -> y.mode(mode));
+        }
         Stenohall x = new Stenohall();
         x.down(0);
         x.up(0);
@@ -298,9 +307,11 @@ final class KeySentences {
         Sentences.of(5, "Throws IllegalArgumentException if it is out of range");
         for (int stroke : NO_STROKES) {
             Due.refuses("stroke " + stroke, IllegalArgumentException.class, Halls::rich, y -> y.stroke(stroke));
+            Due.refuses("stroke " + stroke, IllegalArgumentException.class, Halls::newlyDown, y -> y.stroke(stroke));
         }
         Sentences.of(5, "Throws IllegalStateException if there are 100");
         Due.refuses("stroke, 100 strokes", IllegalStateException.class, Halls::full, y -> y.stroke(1));
+        Due.refuses("stroke, a key went down since the 100th", IllegalStateException.class, Halls::fullByFirst, y -> y.stroke(1));
         Due.refuses("one that would undo", IllegalStateException.class, y -> {
             Halls.full(y);
             Due.entry(y, 0, "=", 500);

@@ -30,6 +30,7 @@ final class LearningSentences {
         checksum();
         isSound();
         stillSound();
+        lastCalls();
     }
 
     private static int contract(Stenohall x, String letters, int cell) {
@@ -151,6 +152,18 @@ final class LearningSentences {
         Due.is("of several the least", x.nearest(3), 2);
         Due.entry(x, 1, "a", 3);
         Due.is("the stroke itself", x.nearest(3), 3);
+        for (int[] outlines : new int[][] {{1, 2, 7}, {7, 2, 1}, {2, 1, 7}, {1, 7, 2}}) {
+            Stenohall z = new Stenohall();
+            for (int i = 0; i < 3; i++) {
+                Due.entry(z, i, "a", outlines[i]);
+            }
+            Due.is("the least, told first, last or between", z.nearest(3), 1);
+            Stenohall w = new Stenohall();
+            for (int outline : outlines) {
+                Due.entry(w, 3, "a", outline);
+            }
+            Due.is("the least of one layer", w.nearest(3), 1);
+        }
         Stenohall y = new Stenohall();
         Due.entry(y, 0, "a", 1);
         Due.is("all keys unlike", y.nearest(65534), 1);
@@ -226,6 +239,10 @@ final class LearningSentences {
         Due.refuses("chord: no stroke, 4 typed", IllegalArgumentException.class, y -> Due.type(y, "", 1, 2, 3, 4), y -> y.chord(65536));
         Due.refuses("sign: none, 12 typed", IllegalArgumentException.class, y -> Due.type(y, "abcdefghijkl"), y -> y.sign('?'));
         Due.refuses("entry: no layer, nothing typed", IndexOutOfBoundsException.class, y -> y.stroke(1), y -> y.entry(4));
+        Due.refuses("entry: no stroke typed, 40", UnsupportedOperationException.class, y -> {
+            Halls.fortyEntries(y, 2);
+            Due.type(y, "b");
+        }, y -> y.entry(2));
         Due.refuses("entry: no sign typed, 40", UnsupportedOperationException.class, y -> {
             Halls.fortyEntries(y, 2);
             Due.type(y, "", 1, 1);
@@ -334,6 +351,15 @@ final class LearningSentences {
         }
         Due.is("the most there can be of capitals", y.brailleLength(), 1299);
         Due.is("the last of them", y.cellAt(1298), 6);
+        Stenohall z = new Stenohall();
+        Due.entry(z, 0, "a.b.c.d.e.f.", 1);
+        for (int i = 0; i < 100; i++) {
+            z.stroke(1);
+        }
+        Due.is("more cells than signs there can be", z.brailleLength(), 17 + 99 * 19);
+        Due.is("the last letter of them", z.cellAt(1896), 6);
+        Due.is("the last of them", z.cellAt(1897), 67);
+        Due.is("sound", z.isSound(), true);
     }
 
     private static void cellAt() {
@@ -543,5 +569,26 @@ final class LearningSentences {
         Due.is("the text is another one since", x.isSound(), true);
         x.tick();
         Due.is("and was kept", x.isSound(), true);
+    }
+
+    /** 100 strokes, 400 ticks and a dozen others: each answer is due as that of the first calls is. */
+    private static void lastCalls() {
+        Due.by("An object is used for at most 512 calls after it has been made");
+        Stenohall x = new Stenohall();
+        x.sink(9);
+        Due.entry(x, 0, "ab", 1);
+        for (int i = 0; i < 100; i++) {
+            Due.is("stroke", x.stroke(1), i + 1);
+            for (int k = 0; k < 4; k++) {
+                Due.is("tick", x.tick(), 4 * i + k + 1);
+            }
+        }
+        Due.is("call 506", x.length(), 299);
+        Due.is("call 507", x.time(298), 396);
+        Due.is("call 508", x.shown(0), 98 * 3 - 1);
+        Due.is("call 509", x.takenBack(0), 0);
+        Due.fails("call 510", IllegalStateException.class, () -> x.stroke(1));
+        Due.fails("call 511", IllegalStateException.class, x::tick);
+        Due.is("call 512", x.isSound(), true);
     }
 }

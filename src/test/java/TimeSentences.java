@@ -132,6 +132,10 @@ final class TimeSentences {
         Due.is("less than 0", x.shown(2), 0);
         x.tick();
         Due.is("kept for the first tick", Due.shown(x, 2), "ab");
+        Due.is("kept before it was there, and taken back", x.takenBack(1), 0);
+        x.tick();
+        Due.is("nothing is kept for the third tick", x.shown(1), 0);
+        Due.is("kept before it was there, and taken back", x.takenBack(1), 2);
     }
 
     private static void takenBackBehindTheBeginning() {
@@ -154,6 +158,21 @@ final class TimeSentences {
         x.stroke(1);
         x.tick();
         Due.is("what no tick's end saw", x.takenBack(0), 12);
+        for (int delay = 0; delay < 10; delay++) {
+            takenBackTickByTick(delay);
+        }
+    }
+
+    /** Each tick has another text of two letters, whose first one is the same. */
+    private static void takenBackTickByTick(int delay) {
+        Stenohall x = new Stenohall();
+        x.sink(delay);
+        x.stroke(1);
+        for (int t = 0; t < 24; t++) {
+            Due.entry(x, 0, "a" + (char) ('a' + t), 1);
+            x.tick();
+            Due.is("delay " + delay + ", tick " + t, x.takenBack(0), Math.max(0, t - delay));
+        }
     }
 
     private static void paperAtFirst() {

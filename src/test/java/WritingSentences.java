@@ -109,6 +109,25 @@ final class WritingSentences {
         writes("a ,", "a", "=,");
         writes("a b", "a", "=^b");
         writes("a b.", "a", "b.");
+        chooses("z b c", "b", "b");
+        chooses("zb c", "b", "^b");
+        chooses("z,b c", "b", ",b");
+        chooses("z.B c", "b", ".b");
+        chooses("z b c", "^b", "b");
+        chooses("z b c", ",b", "b");
+        chooses("z b c", ".b", "b");
+    }
+
+    /** Between z and c an entry's own content, and an alternative that c calls for. */
+    private static void chooses(String want, String own, String other) {
+        Stenohall x = new Stenohall();
+        Due.entry(x, 0, "z", 1);
+        Due.entry(x, 0, own, 2);
+        Due.type(x, other, 2);
+        x.alternative(0, 'c');
+        Due.entry(x, 0, "c", 3);
+        Due.strokes(x, 1, 2, 3);
+        Due.is(other + " in place of " + own, Due.text(x), want);
     }
 
     private static void gluedBlanks() {
@@ -160,6 +179,9 @@ final class WritingSentences {
         joins("foxesy", "s", "fox", "s=y");
         joins("foxS", "s", "fox", "-s");
         joins("foxs", "s", "fox", "^s");
+        joins("cry", "eyds", "cry", "");
+        joins("cry,", "eyds", "cry", ",");
+        joins("cryS", "eyds", "cry", "-s");
         writes("ab", "a^b");
         writes("bake Ing", "bake", "-^ing");
         writes("a", "a", "^");
@@ -259,6 +281,9 @@ final class WritingSentences {
         joins("bake|ing", "e", "bake|", "ing");
         joins("fox.S", "s", "fox.", "s");
         joins("ing", "e", "#", "ing");
+        joins("ca,ing", "d", "ca,", "ing");
+        joins("ca|ing", "d", "ca|", "ing");
+        joins("ca.Ing", "d", "ca.", "ing");
         Stenohall x = new Stenohall();
         x.rule('s');
         x.rule('e');
